@@ -598,7 +598,7 @@ public final class WaysTold {
             }
             reached.clear();
             reach(knot, 0);
-            for (int i = 0; i < reached.size; i++) {
+            for (int i = 0; i < MOST_KNOTS && i < reached.size; i++) {
                 reachAround(reached.at(i));
             }
         }
@@ -879,7 +879,10 @@ public final class WaysTold {
             int before = leastCosts[place];
             int least = before;
             for (int s = 0; s < SAYINGS.length; s++) {
-                least = Math.min(least, costBy(place, s));
+                int cost = costBy(place, s);
+                if (cost < least) {
+                    least = cost;
+                }
             }
             leastCosts[place] = least;
             return least < before;
@@ -896,11 +899,15 @@ public final class WaysTold {
 
         private int costBy(int place, int s) {
             int to = leadOf(place, s);
-            return to == NONE || !isSaying(s) ? UNREACHED : leastCostFrom(to) + costs[s];
+            if (to < 0 || to >= places || s < 0 || s >= costs.length) {
+                return UNREACHED;
+            }
+            return leastCosts[to] + costs[s];
         }
 
         private int leadOf(int place, int s) {
-            return isPlace(place) && isSaying(s) ? leads[place * SAYINGS.length + s] : NONE;
+            int at = place * SAYINGS.length + s;
+            return at >= 0 && at < leads.length ? leads[at] : NONE;
         }
 
         private int leastCostFrom(int place) {

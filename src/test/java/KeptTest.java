@@ -23,6 +23,7 @@ public final class KeptTest {
         due.same("22: 8", x.keep(), NONE);
         due.same("22: 8 are kept", x.count(3), 8);
         due.same("23: the last one", x.still(7), 1);
+        due.same("23: none behind it", x.still(8), NONE);
         due.routed("22: the route stays", x);
     }
 
