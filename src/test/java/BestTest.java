@@ -1,17 +1,14 @@
 /** Promise 21: best. */
 public final class BestTest {
     private static final int NONE = WaysTold.NONE;
-    private static final int[] ODD = {-1, Integer.MIN_VALUE, Integer.MAX_VALUE};
     private static final Due due = new Due();
 
     public static void main(String[] args) {
         best();
-        bestRefused();
         bestNone();
         bestTies();
         bestPasses();
         bestForNothing();
-        bestOfSixty();
         due.end();
     }
 
@@ -29,20 +26,6 @@ public final class BestTest {
         x.go(1);
         x.best(0, 1, 8);
         due.routed("21: the route stays", x, 1);
-    }
-
-    private static void bestRefused() {
-        WaysTold x = Nets.grid(3, 3);
-        Nets.say(x, 44);
-        due.same("21: knot 9", x.best(9, 0, 0), NONE);
-        due.same("21: facing 4", x.best(0, 4, 0), NONE);
-        due.same("21: to 9", x.best(0, 0, 9), NONE);
-        for (int odd : ODD) {
-            due.same("21: odd knot", x.best(odd, 0, 0), NONE);
-            due.same("21: odd facing", x.best(0, odd, 0), NONE);
-            due.same("21: to an odd knot", x.best(0, 0, odd), NONE);
-        }
-        due.said("21: what was said stays", x, 44);
     }
 
     private static void bestNone() {
@@ -108,79 +91,5 @@ public final class BestTest {
         x.price(5, 50);
         due.same("21: without right", x.best(0, 1, 23), 0);
         due.same("21: it ends there", x.walk(0, 1), 23);
-    }
-
-    /**
-     * Streets at random, right turns alone, and one street only at the last knot: the way to that
-     * knot is one, and in some net it is long enough.
-     */
-    private static void bestOfSixty() {
-        for (int seed = 1; seed < 1000; seed++) {
-            int[] across = randomStreets(seed);
-            int[] places = placesBefore(across, 62);
-            if (places[61] != NONE) {
-                bestOfSixtyIn(across, places);
-                return;
-            }
-        }
-        due.same("21: a net with a long way", 0, 1);
-    }
-
-    private static void bestOfSixtyIn(int[] across, int[] places) {
-        WaysTold x = Nets.knots(24);
-        for (int end = 0; end < 96; end++) {
-            if (across[end] > end) {
-                x.street(end / 4, end % 4, across[end] / 4, across[end] % 4, 0);
-            }
-        }
-        x.allow(2);
-        x.say(8, 0);
-        due.same("21: 61 would be", x.best(places[61] / 4, places[61] % 4, 23), NONE);
-        due.said("21: what was said stays", x, 80);
-        due.same("21: 60 are", x.best(places[60] / 4, places[60] % 4, 23), 120);
-        due.same("21: 60 are said", x.count(2), 60);
-        due.same("21: they lead there", x.walk(places[60] / 4, places[60] % 4), 23);
-        x.price(1, 0);
-        for (int kind = 2; kind < 9; kind++) {
-            x.price(kind, 50);
-        }
-        x.price(0, 50);
-        x.allow(511);
-        due.same("21: 61 would be the cheapest", x.best(places[61] / 4, places[61] % 4, 23), NONE);
-    }
-
-    private static int[] randomStreets(int seed) {
-        int[] across = new int[96];
-        java.util.Arrays.fill(across, NONE);
-        java.util.List<Integer> free = new java.util.ArrayList<>();
-        for (int end = 0; end < 93; end++) {
-            free.add(end);
-        }
-        long state = seed;
-        while (free.size() > 1) {
-            state = state * 6364136223846793005L + 1442695040888963407L;
-            int b = free.remove((int) ((state >>> 33) % (free.size() - 1)) + 1);
-            int a = free.remove(0);
-            across[a] = b;
-            across[b] = a;
-        }
-        return across;
-    }
-
-    /** The places (knot times 4 and facing) from which so many right turns lead to knot 23. */
-    private static int[] placesBefore(int[] across, int many) {
-        int[] places = new int[many];
-        java.util.Arrays.fill(places, NONE);
-        int in = 92;
-        for (int i = 1; i < many; i++) {
-            int out = across[in];
-            if (out == NONE || out / 4 == 23) {
-                break;
-            }
-            int facing = (out + 3) % 4;
-            places[i] = out / 4 * 4 + facing;
-            in = out / 4 * 4 + (facing + 2) % 4;
-        }
-        return places;
     }
 }

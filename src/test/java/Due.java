@@ -11,6 +11,14 @@ final class Due {
         }
     }
 
+    void text(String call, String got, String want) {
+        asked++;
+        if (!got.equals(want)) {
+            wrong++;
+            System.out.println(call + ": got \"" + got + "\", due is \"" + want + "\"");
+        }
+    }
+
     void yes(String call, boolean got) {
         same(call, got ? 1 : 0, 1);
     }

@@ -1,7 +1,9 @@
 /** All promises: long runs of calls, each answered by the class and by PlainModel alike. */
 public final class ModelTest {
     private static final int RUNS = 400;
-    private static final int CALLS = 512;
+    private static final int MOST_CALLS = 512;
+    // A round asks for all that is said, and some calls more.
+    private static final int MOST_IN_A_ROUND = 80;
     private static final Due due = new Due();
 
     private long state;
@@ -30,7 +32,11 @@ public final class ModelTest {
 
     /** least .. most, now and then one beyond. */
     private int near(int least, int most) {
-        return any(40) == 0 ? least - 1 : any(40) == 0 ? most + 1 : least + any(Math.max(0, most - least));
+        if (any(19) == 0) {
+            int[] beyond = Edges.beyond(least, most);
+            return beyond[any(beyond.length - 1)];
+        }
+        return least + any(Math.max(0, most - least));
     }
 
     private int nearKnot() {
@@ -47,7 +53,7 @@ public final class ModelTest {
 
     private void calls() {
         int made = build();
-        while (made < CALLS) {
+        while (made <= MOST_CALLS - MOST_IN_A_ROUND) {
             int what = any(99);
             made += what < 16 ? changeNet() : what < 30 ? changeSayings() : what < 55 ? walkAbout()
                 : what < 85 ? routeAbout() : keepAbout();

@@ -8,7 +8,6 @@ public final class NetTest {
         newObject();
         knot();
         street();
-        streetRefused();
         close();
         closeTakesRoute();
         sight();
@@ -62,30 +61,6 @@ public final class NetTest {
         due.same("3: facing, in by 0", x.look(5, 3, 1), 2);
         due.yes("3: two streets between the same knots", x.street(0, 2, 23, 2, 1));
         due.same("3: count(1)", x.count(1), 3);
-    }
-
-    private static void streetRefused() {
-        WaysTold x = Nets.knots(3);
-        x.street(0, 1, 1, 3, 0);
-        due.no("3: both alike", x.street(2, 0, 2, 0, 0));
-        due.no("3: first exit has one", x.street(0, 1, 2, 0, 0));
-        due.no("3: second exit has one", x.street(2, 0, 0, 1, 0));
-        due.no("3: an exit has the other end", x.street(1, 3, 2, 0, 0));
-        due.no("3: knot 3", x.street(3, 0, 2, 0, 0));
-        due.no("3: knot 3 there", x.street(2, 0, 3, 0, 0));
-        due.no("3: exit 4", x.street(1, 4, 2, 0, 0));
-        due.no("3: exit 4 there", x.street(2, 0, 1, 4, 0));
-        due.no("3: name 10", x.street(2, 0, 1, 0, 10));
-        for (int odd : ODD) {
-            due.no("3: odd knot", x.street(odd, 0, 2, 0, 0));
-            due.no("3: odd knot there", x.street(2, 0, odd, 0, 0));
-            due.no("3: odd exit", x.street(2, odd, 1, 0, 0));
-            due.no("3: odd exit there", x.street(2, 0, 1, odd, 0));
-            due.no("3: odd name", x.street(2, 0, 1, 0, odd));
-        }
-        due.same("3: nothing was changed", x.count(1), 1);
-        due.same("3: no street at 2", x.look(2, 0, 0), NONE);
-        due.same("3: the old street", x.look(0, 1, 0), 1);
     }
 
     private static void close() {

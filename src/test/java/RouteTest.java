@@ -7,9 +7,7 @@ public final class RouteTest {
     public static void main(String[] args) {
         start();
         go();
-        goThirty();
         route();
-        routeRefused();
         routeTiesAndBends();
         routed();
         due.end();
@@ -54,19 +52,6 @@ public final class RouteTest {
         due.same("15: where", x.routed(1), 1);
     }
 
-    private static void goThirty() {
-        WaysTold x = Nets.ring(4);
-        x.start(0, 1);
-        for (int i = 1; i <= 30; i++) {
-            due.same("15: street " + i, x.go(1), i);
-        }
-        due.same("15: street 31", x.go(1), NONE);
-        due.same("15: streets", x.routed(0), 30);
-        due.same("15: last knot", x.routed(1), 2);
-        due.same("15: last exit", x.routed(39), 1);
-        due.same("15: none behind it", x.routed(40), NONE);
-    }
-
     private static void route() {
         WaysTold x = Nets.grid(3, 3);
         x.start(0, 3);
@@ -80,21 +65,6 @@ public final class RouteTest {
         x.start(8, 0);
         due.same("16: route(0)", x.route(0), 4);
         due.routed("16: north first", x, 0, 0, 3, 3);
-    }
-
-    private static void routeRefused() {
-        WaysTold x = Nets.line(3);
-        x.knot(0);
-        due.same("16: no route", x.route(1), NONE);
-        x.start(0, 0);
-        x.go(1);
-        due.same("16: knot 4", x.route(4), NONE);
-        due.same("16: none", x.route(3), NONE);
-        for (int odd : ODD) {
-            due.same("16: odd knot", x.route(odd), NONE);
-        }
-        due.routed("16: refused ones change nothing", x, 1);
-        due.same("16: to the last one", x.route(2), 2);
     }
 
     private static void routeTiesAndBends() {

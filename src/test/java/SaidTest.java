@@ -8,14 +8,12 @@ public final class SaidTest {
         say();
         sayNumbers();
         hushAndSaid();
-        walkRefused();
         turns();
         nthTurns();
         nthTurnsMeetKnotsAgain();
         until();
         named();
         toTheEnd();
-        thirtyStreets();
         walked();
         walkedLong();
         due.end();
@@ -73,24 +71,6 @@ public final class SaidTest {
         due.said("10: nothing is said", x);
         due.same("11: nothing at 0", x.said(0), NONE);
         due.same("10: again", x.hush(), 0);
-    }
-
-    private static void walkRefused() {
-        WaysTold x = Nets.line(2);
-        due.same("12: knot 2", x.walk(2, 0), NONE);
-        due.same("12: facing 4", x.walk(0, 4), NONE);
-        for (int odd : ODD) {
-            due.same("12: odd knot", x.walk(odd, 0), NONE);
-            due.same("12: odd facing", x.walk(0, odd), NONE);
-        }
-        due.same("13: no walk", x.walked(0), NONE);
-        due.same("12: nothing is said", x.walk(1, 2), 1);
-        due.same("13: where", x.walked(0), 1);
-        due.same("13: facing", x.walked(1), 2);
-        due.same("13: streets", x.walked(2), 0);
-        due.same("13: no first exit", x.walked(10), NONE);
-        x.walk(2, 0);
-        due.same("13: a refused walk is none", x.walked(0), 1);
     }
 
     private static void turns() {
@@ -210,52 +190,6 @@ public final class SaidTest {
         due.same("12: out by 1, in by 0, facing 2", x.walk(0, 1), 4);
         due.same("13: facing 2", x.walked(1), 2);
         due.same("13: five streets", x.walked(2), 5);
-    }
-
-    /** Thirty streets by one saying are fine, one more is not. */
-    private static void thirtyStreets() {
-        WaysTold x = longLine();
-        Nets.say(x, 80);
-        due.same("12: to the end, 30 streets", x.walk(1, 1), 23);
-        due.same("13: 30 streets", x.walked(2), 30);
-        due.same("12: to the end, 31 streets", x.walk(0, 1), -2);
-        due.same("13: lost behind 30", x.walked(2), 30);
-        due.same("13: lost there", x.walked(0), 22);
-        Nets.say(x, 61);
-        x.sight(22, 1);
-        due.same("12: until, 30 streets", x.walk(0, 1), 22);
-        x.sight(22, 0);
-        x.sight(23, 1);
-        due.same("12: until, 31 streets", x.walk(0, 1), -2);
-        due.same("13: lost there too", x.walked(0), 22);
-        Nets.say(x, 0, 61);
-        due.same("12: each saying has its own 30", x.walk(0, 1), 23);
-        due.same("13: 31 streets in all", x.walked(2), 31);
-
-        WaysTold ring = Nets.ring(23);
-        ring.knot(0);
-        ring.street(10, 2, 23, 0, 0);
-        Nets.say(ring, 52);
-        due.same("12: the turn is street 30", ring.walk(4, 1), 23);
-        due.same("13: 30 streets with the turn", ring.walked(2), 30);
-        due.same("12: the turn is street 31", ring.walk(3, 1), -2);
-        due.same("13: at the turn", ring.walked(0), 10);
-        due.same("13: 30 streets without the turn", ring.walked(2), 30);
-    }
-
-    /** Straight on for 31 streets: 0 to 7 eastward, 0 to 7 northward, 8 to 23 eastward. */
-    private static WaysTold longLine() {
-        WaysTold x = Nets.knots(24);
-        for (int i = 0; i < 7; i++) {
-            x.street(i, 1, i + 1, 3, 0);
-            x.street(i, 0, i + 1, 2, 0);
-        }
-        x.street(7, 1, 0, 2, 0);
-        x.street(7, 0, 8, 3, 0);
-        for (int i = 8; i < 23; i++) {
-            x.street(i, 1, i + 1, 3, 0);
-        }
-        return x;
     }
 
     private static void walked() {

