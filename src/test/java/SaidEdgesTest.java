@@ -26,7 +26,7 @@ public final class SaidEdgesTest {
         walkByNothing();
         walkLostAtTheFirst();
         walkLostAtTheLast();
-        walkEndsAtKnotNone();
+        walkEndsAtFirstAndLastKnot();
         walkLeavesAllElse();
         walkedBeforeAny();
         walkedAfterRefused();
@@ -190,7 +190,7 @@ public final class SaidEdgesTest {
         due.same("12: sixty streets", x.walked(2), MOST_SAID);
     }
 
-    private static void walkEndsAtKnotNone() {
+    private static void walkEndsAtFirstAndLastKnot() {
         WaysTold x = Nets.line(24);
         x.say(8, 0);
         due.same("12: the first knot", x.walk(23, 3), 0);

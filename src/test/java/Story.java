@@ -70,7 +70,7 @@ final class Story {
             case 2 -> said(x, rows);
             case 3 -> walked(x, rows);
             case 4 -> routed(x, rows);
-            case 5 -> told(x, rows);
+            case 5 -> tellings(x, rows);
             case 6 -> routes(x, rows);
             default -> kept(x, rows);
         }
@@ -119,7 +119,7 @@ final class Story {
         rows.add("holds() " + x.holds());
     }
 
-    private static void told(WaysTold x, List<String> rows) {
+    private static void tellings(WaysTold x, List<String> rows) {
         rows.add("tell() " + x.tell());
         for (int i = 0; i <= x.count(2); i++) {
             rows.add("told " + i + ": " + x.said(i));
