@@ -21,6 +21,7 @@ public final class BestEdgesTest {
         toItselfInPlaceOfSixty();
         asItEnds();
         facingNotAsked();
+        notAtTheNextKnot();
         bySayingsOfThirty();
         byEachNumber();
         leastPriceFirst();
@@ -127,6 +128,17 @@ public final class BestEdgesTest {
             int[] said = {10, 0, 0, 30};
             due.same("21: facing " + facing, x.best(0, facing, 1), wants[facing]);
             due.said("21: facing " + facing, x, said[facing]);
+        }
+    }
+
+    /** Whatever the facing, who ends at knot 2 is at no knot before or behind it. */
+    private static void notAtTheNextKnot() {
+        for (int in = 0; in <= 3; in++) {
+            WaysTold x = Nets.knots(4);
+            x.street(0, 1, 2, in, 0);
+            due.same("21: in by " + in + ", to knot 1", x.best(0, 1, 1), NONE);
+            due.same("21: in by " + in + ", to knot 3", x.best(0, 1, 3), NONE);
+            due.same("21: in by " + in + ", to knot 2", x.best(0, 1, 2), 1);
         }
     }
 
